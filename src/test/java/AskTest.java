@@ -242,8 +242,8 @@ public final class AskTest {
         x.weather(2, 500);
         x.drive(0);
         x.pass(4);
-        x.seen(7);
-        x.tried(0, 0, 7);
+        x.seen(12);
+        x.tried(0, 0, 12);
         int[] about = new int[500];
         for (int what = 0; what < about.length; what++) {
             about[what] = x.about(what);
@@ -270,7 +270,9 @@ public final class AskTest {
             due.is("about(" + what + ")", x.about(what), what == 11 ? 4 : about[what]);
         }
         due.is("oats", x.coach(1), oats);
-        due.is("who", x.who(0, 0), 0);
+        due.is("who", x.who(0, 0), 1);
+        due.stands(x, 0, "");
+        due.is("taught", x.taught(), 1);
         due.is("steps back are of the image", x.undo(), 4);
         due.is("day", x.about(3), 3);
         x.start(200);

@@ -119,6 +119,8 @@ public final class TextTest {
         due.faulty("steps 1;" + (char) 0, 1, 8);
         due.faulty("steps " + (char) 233 + ";", 1, 6);
         due.faulty("steps 1 & 2;", 1, 8);
+        due.faulty(";".repeat(300), 1, 0);
+        due.faulty("pass 1;".repeat(24) + ";".repeat(132), 1, 168);
         String longest = "oats 1" + "+1".repeat(146) + "+;";
         due.faulty(longest, 1, 299);
         due.stands(x, 3, "oats 1" + "+1".repeat(146) + " ;");
