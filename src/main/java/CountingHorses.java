@@ -725,7 +725,8 @@ public final class CountingHorses {
     /**
      * A text as it was read: its clauses, and its laws as code behind one another. In the code a
      * number stands for itself, all else is a kind less than 0; THEN and ELSE are followed by
-     * where to go on. No token gives more code than it has bytes.
+     * where to go on. The code is never longer than the text: a token gives one sign at most, but
+     * for those two, whose if and end give none.
      */
     private static final class Text {
         final int[] code = new int[MOST_BYTES];
