@@ -563,8 +563,9 @@ public final class CountingHorses {
 
     private boolean isStoppedAt(int place) {
         for (int horse = 0; horse < now.stable.horses; horse++) {
-            // No drive leads back, so none from behind the place can stop there.
-            for (int from = 0; from <= place; from++) {
+            // No drive leads back, so none from behind the place can stop there; one that does
+            // has mostly set out nearby, so few have to be driven before it is found.
+            for (int from = place; from >= 0; from--) {
                 if (stops.stop[stops.rowOf(horse, from)] == place) {
                     return true;
                 }
@@ -889,23 +890,22 @@ public final class CountingHorses {
             fault = 0;
             faultAt = NONE;
             tape.split();
-            goTo(0);
+            token = 0;
+            kind = tape.kind[0];
+            number = tape.number[0];
             boolean standing = true;
             for (int i = 0; i <= MOST_CLAUSES && standing && kind != TEXT_END; i++) {
                 standing = clause();
             }
         }
 
-        private void goTo(int i) {
-            if (isWithin(i, 0, tape.tokens - 1)) {
-                token = i;
-                kind = tape.kind[i];
-                number = tape.number[i];
-            }
-        }
-
+        /** Behind the last token, the end of the text, there is none to go to. */
         private void next() {
-            goTo(token + 1);
+            if (token + 1 < tape.tokens) {
+                token++;
+                kind = tape.kind[token];
+                number = tape.number[token];
+            }
         }
 
         private boolean refuse(int why) {

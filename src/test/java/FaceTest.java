@@ -113,7 +113,7 @@ public final class FaceTest {
             x.horse(i * 3, i);
             x.inn(i * 40);
         }
-        Due.putOnTape(x, law);
+        Mails.putOnTape(x, law);
         x.text();
         x.by(0);
         x.bridge(4, 44);

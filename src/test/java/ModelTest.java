@@ -1,42 +1,56 @@
 import java.util.ArrayList;
 import java.util.List;
 import java.util.Random;
+import java.util.stream.LongStream;
 
 /** Runs of drawn calls (seeds are fixed) on the class and on the model side by side. */
 public final class ModelTest {
-    private static final int RUNS = 120;
+    private static final int RUNS = 240;
+    // What later calls answer is free.
+    private static final int MOST_CALLS = 512;
+    // The loop may make so many of them before it looks again: a text of 300 bytes takes the most.
+    private static final int AT_ONCE = 24;
     private static final String[] SIGNS = {"<", "<=", ">", ">=", "=", "#"};
 
+    private final long seed;
     private final Random random;
     private final CountingHorses x = new CountingHorses();
     private final Model model = new Model();
     private final List<String> calls = new ArrayList<>();
     private final List<String> told = new ArrayList<>();
     private boolean wrong = false;
+    private int made = 0;
 
     private ModelTest(long seed) {
+        this.seed = seed;
         random = new Random(seed);
     }
 
     public static void main(String[] args) {
         int runs = args.length > 0 ? Integer.parseInt(args[0]) : RUNS;
         long first = args.length > 1 ? Long.parseLong(args[1]) : 1;
-        long looked = 0;
-        for (long seed = first; seed < first + runs; seed++) {
-            ModelTest run = new ModelTest(seed);
-            run.go();
-            looked += run.calls.size();
+        List<ModelTest> done = LongStream.range(first, first + runs).parallel()
+            .mapToObj(ModelTest::run).toList();
+        for (ModelTest run : done) {
             if (run.wrong) {
-                System.out.println("seed " + seed + ":");
+                System.out.println("seed " + run.seed + ":");
                 run.told.forEach(System.out::println);
                 run.calls.forEach(System.out::println);
                 System.exit(1);
             }
         }
+        long looked = done.stream().mapToLong(run -> run.calls.size()).sum();
         System.out.println("ModelTest: " + runs + " runs, " + looked + " calls, all alike");
     }
 
+    private static ModelTest run(long seed) {
+        ModelTest run = new ModelTest(seed);
+        run.go();
+        return run;
+    }
+
     private void check(String call, long got, long want) {
+        made++;
         calls.add(call + " -> " + got + (got == want ? "" : " but the model says " + want));
         wrong |= got != want;
     }
@@ -51,11 +65,14 @@ public final class ModelTest {
                 text();
             }
         }
-        for (int i = 0; i < 250 && !wrong; i++) {
+        int until = random.nextInt(4) == 0 ? MOST_CALLS - 330 : MOST_CALLS - 30;
+        while (made < until - AT_ONCE && !wrong) {
             call(random.nextInt(31));
         }
-        for (int what = -1; what < 401 && !wrong; what++) {
-            check("about(" + what + ")", x.about(what), model.about(what));
+        for (int what = -1; what < 401 && made < MOST_CALLS && !wrong; what++) {
+            if (what < 13 || what > 18 && what < 32 || what > 98) {
+                check("about(" + what + ")", x.about(what), model.about(what));
+            }
         }
     }
 
@@ -217,12 +234,11 @@ public final class ModelTest {
             text = text.substring(0, 300);
         }
         told.add("text: " + text);
-        x.end(0);
-        model.end(0);
+        check("end(0)", x.end(0), model.end(0));
         for (int from = 0; from < text.length(); from += 20) {
             int[] f = new int[5];
             for (int i = 0; i < 5; i++) {
-                f[i] = Due.four(text, from + i * 4);
+                f[i] = Mails.four(text, from + i * 4);
             }
             check("feed", x.feed(f[0], f[1], f[2], f[3], f[4]),
                 model.feed(f[0], f[1], f[2], f[3], f[4]));
