@@ -11,6 +11,7 @@ public final class BackTest {
         asAheadOfIt();
         allElseStays();
         innsToldSince();
+        eachInn();
         undo();
         due.close("BackTest");
     }
@@ -108,13 +109,16 @@ public final class BackTest {
             x.undo();
         }
         due.call(x, 15, "about", 3);
+        x.start(77);
         x.move(0, 5);
-        x.pass(7);
+        x.pass(40);
         x.back();
         due.call(x, 30, "about", 8);
         for (int day = 44; day >= 15; day--) {
             due.call(x, day - 15, "undo");
             due.call(x, day, "about", 3);
+            due.call(x, 0, "coach", 0);
+            due.call(x, 1, "about", 20);
         }
         due.call(x, NONE, "undo");
     }
@@ -192,6 +196,21 @@ public final class BackTest {
         due.call(x, 1, "about", 2);
         due.call(x, -2, "about", 21);
         due.call(x, 2, "inn", 80);
+    }
+
+    private static void eachInn() {
+        CountingHorses x = new CountingHorses();
+        for (int i = 0; i < 10; i++) {
+            x.inn(i);
+        }
+        for (int i = 0; i < 10; i++) {
+            x.move(i, 100 + i);
+        }
+        for (int i = 9; i >= 0; i--) {
+            due.call(x, 100 + i, "about", 20 + i);
+            due.call(x, i, "undo");
+            due.call(x, i, "about", 20 + i);
+        }
     }
 
     private static void undo() {

@@ -30,6 +30,26 @@ public final class FaultTest {
         due.faulty("pass 1;".repeat(24) + "pass 0;", 6, 168);
         due.faulty("pass 1;".repeat(23) + "pass 0; pass 1;", 2, 166);
         due.faulty("oats 1; oats 10000;", 4, 8);
+        // Each of a number, a ninth and a name, behind whatever may stand ahead of it.
+        for (String ahead : new String[] {"", "1+", "1-", "1*", "1/", "(", "-", "if ", "if not ",
+            "if 1=", "if 1<=", "if 1=1 or ", "if 1=1 and ", "if 1=1?", "if 1=1?1:", "if 1=1?1:2end+"}) {
+            due.faulty("oats " + ahead + "10000;", 2, 5 + ahead.length());
+            due.faulty("oats " + ahead + "mud;", 5, 5 + ahead.length());
+            due.faulty("oats " + ahead + "?;", 1, 5 + ahead.length());
+        }
+        for (String ahead : new String[] {"1+", "1-", "1*", "1/"}) {
+            due.faulty("oats ((((((((" + ahead + "(1", 3, 13 + ahead.length());
+            due.faulty("oats ((((((((" + ahead + "-1", 3, 13 + ahead.length());
+            due.faulty("oats ((((((((" + ahead + "if", 3, 13 + ahead.length());
+        }
+        for (String ahead : new String[] {"", "1=", "1=1 or ", "1=1 and ", "1=1?", "1=1?1:"}) {
+            due.faulty("oats (((((((if " + ahead + "(1", 3, 15 + ahead.length());
+            due.faulty("oats (((((((if " + ahead + "-1", 3, 15 + ahead.length());
+            due.faulty("oats (((((((if " + ahead + "if", 3, 15 + ahead.length());
+        }
+        for (String ahead : new String[] {"", "1=1 or ", "1=1 and "}) {
+            due.faulty("oats (((((((if " + ahead + "not", 3, 15 + ahead.length());
+        }
     }
 
     private static void where() {

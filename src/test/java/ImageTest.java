@@ -9,6 +9,7 @@ public final class ImageTest {
         allIsSoAgain();
         texts();
         fullAgain();
+        eachOfMost();
         image();
         back();
         about();
@@ -175,6 +176,58 @@ public final class ImageTest {
             due.call(x, NONE, "played", 3);
             due.call(x, 4 + times, "about", 3);
             due.call(x, 0, "back");
+        }
+    }
+
+    /** The last of each row is kept as the first is. */
+    private static void eachOfMost() {
+        CountingHorses x = new CountingHorses();
+        for (int i = 0; i < 6; i++) {
+            x.horse(1, i + 1);
+            x.seen((i + 1) * (i + 2) / 2);
+        }
+        for (int i = 0; i < 10; i++) {
+            x.inn(i);
+            x.tried(i % 6, i, i + i % 6 + 1);
+        }
+        Mails.read(x, "");
+        x.image();
+        for (int i = 0; i < 10; i++) {
+            x.move(i, 200);
+        }
+        x.seen(NONE);
+        x.tried(NONE, 0, 0);
+        for (int i = 0; i < 10; i++) {
+            x.seen(299);
+            x.tried(i % 5, i + 1, 299);
+        }
+        x.back();
+        for (int i = 0; i < 10; i++) {
+            due.call(x, i, "about", 20 + i);
+        }
+        for (int i = 0; i < 6; i++) {
+            due.call(x, 1 << i, "who", 0, i);
+        }
+        due.call(x, 1, "taught");
+        due.call(x, 1, "who", 0, NONE);
+        eachOfTried(x);
+    }
+
+    /** Each that was tried is looked at: with any of them gone wrong none fits. */
+    private static void eachOfTried(CountingHorses x) {
+        for (int wrong = 0; wrong < 10; wrong++) {
+            x.tried(NONE, 0, 0);
+            for (int i = 0; i < 10; i++) {
+                x.tried(i % 6, i, i + i % 6 + (i == wrong ? 2 : 1));
+            }
+            x.image();
+            x.tried(NONE, 0, 0);
+            for (int i = 0; i < 10; i++) {
+                x.tried(0, 299, 299);
+            }
+            due.call(x, 1, "taught");
+            x.back();
+            due.call(x, 0, "taught");
         }
     }
 

@@ -14,6 +14,7 @@ public final class RoadTest {
         mudOfEach();
         bridgesAndInns();
         horses();
+        horsesNotToldYet();
         coachAndDay();
         aNewObject();
         mud();
@@ -161,6 +162,30 @@ public final class RoadTest {
         for (int[] w : wrong) {
             due.changesNothing(Mails::some, NONE, "horse", w[0], w[1]);
         }
+    }
+
+    /** One is told, and a law by which the next one would stop where that one never does. */
+    private static void horsesNotToldYet() {
+        CountingHorses x = new CountingHorses();
+        Mails.rule(x, "steps 1; stride if horse=0 ? 9 : 4 end;");
+        x.inn(5);
+        x.seen(4);
+        for (int horses = 0; horses < 6; horses++) {
+            boolean second = horses > 1;
+            due.call(x, second ? 1 : -3, "harness", 0, 4, NONE);
+            due.call(x, second ? 1 : NONE, "least", 0, 4, true);
+            due.call(x, second ? (1 << horses) - 2 : 0, "who", 0, 0);
+            due.call(x, second ? horses - 1 : 0, "who", 0, NONE);
+            due.call(x, second ? 0 : 1, "never");
+            due.call(x, new int[] {0, 0, 0, 1, 3, 6}[horses], "thief", 0, 17, NONE);
+            due.call(x, NONE, "drive", horses);
+            due.call(x, -2, "tried", horses, 0, 4);
+            due.call(x, horses, "horse", 1, 1);
+        }
+        due.call(x, 1, "least", 0, 4, true);
+        due.call(x, 62, "who", 0, 0);
+        due.call(x, 0, "never");
+        due.call(x, 10, "thief", 0, 17, NONE);
     }
 
     private static void coachAndDay() {

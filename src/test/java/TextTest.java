@@ -22,6 +22,7 @@ public final class TextTest {
         end();
         text();
         textOfNone();
+        nothingIsLeft();
         fault();
         by();
         due.close("TextTest");
@@ -279,6 +280,15 @@ public final class TextTest {
         due.call(x, 300, "end", 300);
         due.call(x, 0, "end", 0);
         due.call(x, 1, "text");
+        String[] cuts = {"oats day", "drive 56", "oats 1;x", "oats 10000", "oats if 1<="};
+        int[][] faults = {{7, 1, 5}, {7, 1, 7}, {6, 1, 6}, {9, 1, 9}, {10, 1, 10}};
+        for (int i = 0; i < cuts.length; i++) {
+            Mails.putOnTape(x, cuts[i]);
+            due.call(x, faults[i][0], "end", faults[i][0]);
+            due.call(x, NONE, "text");
+            due.call(x, faults[i][1], "fault", 0);
+            due.call(x, faults[i][2], "fault", 1);
+        }
 
         due.of(9, "NONE, and nothing is done, if it has not so many, or n is below 0.");
         due.changesNothing(Mails::empty, NONE, "end", 1);
@@ -334,6 +344,33 @@ public final class TextTest {
         due.is("the tape stayed", x.text(), 0);
         x.played(0);
         due.call(x, 9, "about", 3);
+    }
+
+    /** Of a text with a fault nothing is left in the one that is read behind it. */
+    private static void nothingIsLeft() {
+        CountingHorses x = Mails.three();
+        String longFault = "oats 9" + "+9".repeat(140) + " x";
+        for (int i = 0; i < 3; i++) {
+            due.is("a long fault", Mails.read(x, longFault), NONE);
+            due.is("a fault behind each law", Mails.read(x, "steps -9; stride -9; oats -9; x"), NONE);
+            due.is("a fault behind orders", Mails.read(x, "pass 9; drive 0; x"), NONE);
+        }
+        due.is("an empty one", Mails.read(x, ""), 0);
+        x.by(0);
+        due.call(x, 4, "would", 0, 0, 2);
+        due.call(x, 12, "would", 0, 0, 0);
+        due.call(x, 1, "would", 0, 0, 1);
+        due.call(x, NONE, "played", 0);
+        due.call(x, 0, "about", 3);
+        due.is("a long fault", Mails.read(x, longFault), NONE);
+        due.is("a long fault", Mails.read(x, longFault), NONE);
+        Mails.rule(x, "oats 1+2;");
+        due.call(x, 3, "would", 0, 0, 1);
+        due.is("a fault", Mails.read(x, "oats - - -1; x"), NONE);
+        Mails.rule(x, "oats 1;");
+        due.call(x, 1, "would", 0, 0, 1);
+        due.is("a fault of steps", Mails.read(x, "steps 1; steps"), NONE);
+        due.is("steps once", Mails.read(x, "steps 1;"), 3);
     }
 
     private static void fault() {
