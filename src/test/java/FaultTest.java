@@ -1,3 +1,5 @@
+import java.util.List;
+
 /** Faults of texts: the terms of part II. */
 public final class FaultTest {
     private static final Due due = new Due();
@@ -7,6 +9,7 @@ public final class FaultTest {
         where();
         theLeast();
         cannotStand();
+        eachInEachPosition();
         numbers();
         ninth();
         ninthOfMixed();
@@ -113,6 +116,47 @@ public final class FaultTest {
         due.faulty("day;", 1, 0);
         due.faulty("step 1;", 1, 0);
         due.faulty(";".repeat(300), 1, 0);
+    }
+
+    /** Every token in every position of the language: ahead of it, and those that can stand there. */
+    private static void eachInEachPosition() {
+        String clause = "steps stride oats drive pass";
+        String names = "horse count shoe day mud place step gone";
+        String one = "if - ( 5 " + names;
+        String ask = one + " not";
+        String on = "+ - * / ";
+        String[][] positions = {{"", clause}, {"drive 1; ", clause}, {"oats 1; ", clause},
+            {"drive ", "5"}, {"pass ", "5"}, {"drive 1 ", ";"}, {"stride ", one}, {"stride 1 + ", one},
+            {"stride 1 * ", one}, {"stride - ", one}, {"stride ( ", one}, {"stride 1 ", on + ";"},
+            {"stride day ", on + ";"}, {"stride -1 ", on + ";"}, {"stride (1) ", on + ";"},
+            {"stride (1 ", on + ")"}, {"stride if ", ask}, {"stride if not ", ask},
+            {"stride if 1=1 or ", ask}, {"stride if 1=1 and ", ask}, {"stride if 1 >= ", one},
+            {"stride if 1 ", on + "< <= > >= = #"}, {"stride if not 1 ", on + "< <= > >= = #"},
+            {"stride if 1=1 ", on + "or and ?"}, {"stride if 1=1 ? ", one},
+            {"stride if 1=1 ? 1 ", on + ":"}, {"stride if 1=1 ? 1 : ", one},
+            {"stride if 1=1 ? 1 : 1 ", on + "end"}, {"stride if 1=1 ? 1 : 1 end ", on + ";"}};
+        String tokens = clause + " if end or and not " + names
+            + " < <= > >= = # + - * / ( ) ; ? : 5 gallop Day ! & . " + (char) 9 + " " + (char) 200;
+        for (String[] position : positions) {
+            List<String> standing = List.of(position[1].split(" "));
+            for (String token : tokens.split(" ")) {
+                stand(position[0], token, standing.contains(token));
+            }
+        }
+    }
+
+    /** What can stand there is gone beyond: to the end that is missing, if it isn't complete. */
+    private static void stand(String ahead, String token, boolean can) {
+        String text = ahead + token;
+        if (can && token.equals(";")) {
+            due.stands(text);
+        } else if (can && token.equals("gone")) {
+            due.faulty(text, 5, ahead.length());
+        } else if (ahead.equals("oats 1; ") && token.equals("oats")) {
+            due.faulty(text, 4, ahead.length());
+        } else {
+            due.faulty(text, 1, can ? text.length() : ahead.length());
+        }
     }
 
     private static void numbers() {
