@@ -1,10 +1,17 @@
 import java.lang.reflect.InvocationTargetException;
 import java.lang.reflect.Method;
+import java.lang.reflect.Modifier;
 import java.util.Arrays;
+import java.util.Comparator;
+import java.util.List;
 import java.util.stream.Collectors;
 
 /** Calls told by name, so that a test's row is the call and its answer alone. */
 final class Calls {
+    static final List<Method> FACE = Arrays.stream(CountingHorses.class.getDeclaredMethods())
+        .filter(m -> Modifier.isPublic(m.getModifiers()))
+        .sorted(Comparator.comparing(Method::getName)).toList();
+
     private Calls() {
     }
 
@@ -15,7 +22,7 @@ final class Calls {
 
     /** The answer; a boolean counts 1 or 0. */
     static long made(CountingHorses x, String name, Object... args) {
-        for (Method method : CountingHorses.class.getMethods()) {
+        for (Method method : FACE) {
             if (method.getName().equals(name) && method.getParameterCount() == args.length) {
                 return answered(method, x, args);
             }

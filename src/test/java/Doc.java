@@ -4,10 +4,11 @@ import java.nio.file.Path;
 import java.util.Map;
 import java.util.TreeMap;
 
-/** The document's words by section, as the tests quote them: 0 the terms, 1 .. 30 the promises. */
+/** The document by section: 0 the terms, 1 .. 30 the promises, as tests quote them, and the face. */
 final class Doc {
     static final int TERMS = 0;
     static final int PROMISES = 30;
+    static final int FACE = 31;
     private static final Path FILE = Path.of("../shared/DOC.md");
     // It stands ahead of the terms, behind an opening that promises nothing.
     private static final String BOUND_ON_CALLS = "An object is used for";
@@ -43,7 +44,11 @@ final class Doc {
         if (heading.startsWith("## Promise ")) {
             return Integer.parseInt(heading.replaceAll("\\D*(\\d+).*", "$1"));
         }
-        return heading.equals("## Terms") ? TERMS : -1;
+        return switch (heading) {
+            case "## Terms" -> TERMS;
+            case "## The public face" -> FACE;
+            default -> -1;
+        };
     }
 
     private static String withoutSignature(String line) {

@@ -1,4 +1,4 @@
-/** A drive, draws, days and steps back: the terms of part I, promises 13 to 16, 18 and 19. */
+/** A drive, draws, days and the coach: the terms of part I, promises 13 to 16 and 19. */
 public final class DriveTest {
     private static final int NONE = CountingHorses.NONE;
     private static final int NO = 0;

@@ -7,21 +7,13 @@ import java.nio.file.Path;
 import java.util.Arrays;
 import java.util.Set;
 import java.util.TreeSet;
+import java.util.regex.Matcher;
 import java.util.regex.Pattern;
 import java.util.stream.Collectors;
 
 /** The public face, the rules of LANGUAGE.md that can be looked at, and what a run makes. */
 public final class FaceTest {
     private static final Due due = new Due();
-    private static final Set<String> FACE = Set.of(
-        "boolean mud(int, int, int)", "int bridge(int, int)", "int inn(int)",
-        "boolean move(int, int)", "int horse(int, int)", "boolean weather(int, int)",
-        "int feed(int, int, int, int, int)", "int end(int)", "int text()", "int fault(int)",
-        "boolean by(int)", "boolean start(int)", "int would(int, int, int)", "int drive(int)",
-        "int pass(int)", "int played(int)", "int undo()", "int coach(int)",
-        "int harness(int, int, int)", "int least(int, int, boolean)", "int thief(int, int, int)",
-        "int seen(int)", "int who(int, int)", "int tried(int, int, int)", "int taught()",
-        "int never()", "int image()", "int back()", "int about(int)");
 
     public static void main(String[] args) throws Exception {
         face();
@@ -44,13 +36,23 @@ public final class FaceTest {
                     .map(Class::getName).collect(Collectors.joining(", ", "(", ")")));
             }
         }
-        due.yes("the face is " + found, found.equals(new TreeSet<>(FACE)));
+        due.yes("the face is " + found, found.equals(told()));
         for (Field f : c.getDeclaredFields()) {
             boolean none = f.getName().equals("NONE");
             due.is("is private: " + f, Modifier.isPrivate(f.getModifiers()) ? 1 : 0, none ? 0 : 1);
             due.yes("is final: " + f, Modifier.isFinal(f.getModifiers()));
         }
         due.is("NONE", CountingHorses.NONE, -1);
+    }
+
+    /** The methods of the document's code block, without their parameters' names. */
+    private static Set<String> told() {
+        Set<String> told = new TreeSet<>();
+        Matcher row = Pattern.compile("public (\\w+ \\w+\\(.*\\));").matcher(new Doc().section(Doc.FACE));
+        while (row.find()) {
+            told.add(row.group(1).replaceAll("(int|boolean) \\w+([,)])", "$1$2"));
+        }
+        return told;
     }
 
     private static void inside() {
@@ -75,6 +77,7 @@ public final class FaceTest {
 
     private static void source() throws Exception {
         String source = Files.readString(Path.of("src/main/java/CountingHorses.java"));
+        due.yes("signs are 1 to 127", source.chars().allMatch(c -> c > 0 && c < 128));
         String code = source.replaceAll("(?s)/\\*.*?\\*/", "").replaceAll("//[^\n]*", "")
             .replaceAll("\"[^\"]*\"", "\"\"");
         String[] never = {"\\bthrow\\b", "\\bthrows\\b", "\\btry\\b", "\\bcatch\\b",
@@ -84,8 +87,25 @@ public final class FaceTest {
         for (String word : never) {
             due.no("source has " + word, Pattern.compile(word).matcher(code).find());
         }
+        library(code);
+        lengths(code);
+    }
+
+    private static void library(String code) {
         due.is("imports", code.split("\\bimport\\b", -1).length - 1, 1);
-        due.yes("signs are 1 to 127", source.chars().allMatch(c -> c > 0 && c < 128));
+        Set<String> used = Set.of("System.arraycopy", "Arrays.fill", "Math.min", "Math.max",
+            "Integer.bitCount");
+        Matcher call = Pattern.compile("\\b[A-Z][a-z]+\\.\\w+").matcher(code);
+        while (call.find()) {
+            due.yes("is of the library: " + call.group(), used.contains(call.group()));
+        }
+    }
+
+    private static void lengths(String code) {
+        Matcher method = Pattern.compile("(?s)\n( +)[^\n]*\\) \\{\n.*?\n\\1\\}").matcher(code);
+        while (method.find()) {
+            due.yes("sixty lines at most: " + method.group(), method.group().strip().lines().count() <= 60);
+        }
     }
 
     /** What calls make is never freed in the room of a run: they make nothing at all. */
